@@ -115,7 +115,7 @@ public final class RobotBus {
         messagesLost += queue.deepen(depth);
         Topic source = topics[topic];
         if (isNew && source.latched && source.hasLast) {
-            messagesLost += queue.append(source.lastValue, source.lastSender, source.lastStamp);
+            queue.append(source.lastValue, source.lastSender, source.lastStamp);
         }
         return queue.size;
     }

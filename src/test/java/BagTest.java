@@ -8,6 +8,7 @@ public final class BagTest {
         playsInTime(check);
         playsFromTheFirstTime(check);
         playsAsThePlayer(check);
+        playsOnTheTopicsOfTheRecords(check);
         doesNotRecordThePlayer(check);
         playsWhatWasThereAtFirst(check);
         playsBeforeTheSpins(check);
@@ -136,6 +137,22 @@ public final class BagTest {
         bus.join(0);
         check.due("it is the topic's last one", 1, () -> bus.subscribe(0, 0, 1));
         check.due("with the player as its sender", -1, () -> bus.queued(0, 0, 0, 1));
+    }
+
+    private static void playsOnTheTopicsOfTheRecords(Check check) {
+        RobotBus bus = Check.busWith(0);
+        for (int topic = 5; topic >= 0; topic--) {
+            bus.keep(topic, true);
+            bus.publish(0, topic, topic * 10);
+            bus.subscribe(0, topic, 2);
+        }
+        bus.play(1);
+        bus.tick(1);
+        check.due("topic 0 is taken from", "", () -> Check.values(bus, 0, 0));
+        for (int topic = 1; topic < 6; topic++) {
+            int number = topic;
+            check.due("topic " + topic, topic * 10 + "", () -> Check.values(bus, 0, number));
+        }
     }
 
     private static void doesNotRecordThePlayer(Check check) {

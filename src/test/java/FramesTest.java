@@ -74,6 +74,15 @@ public final class FramesTest {
             place(check, bus, 1, time, 0, 0, time, -time);
         }
         check.dueThrow("behind the last", Check.ARITHMETIC, () -> bus.locate(1, 51, 0, 0));
+        RobotBus turned = new RobotBus();
+        turned.mount(1, 0);
+        for (int time = 0; time < 6; time++) {
+            turned.sample(1, time, 0, 0, time % 4);
+        }
+        place(check, turned, 1, 2, 1, 0, -1, 0);
+        place(check, turned, 1, 3, 1, 0, 0, -1);
+        place(check, turned, 1, 4, 1, 0, 1, 0);
+        place(check, turned, 1, 5, 1, 0, 0, 1);
         RobotBus edge = new RobotBus();
         edge.mount(5, 0);
         check.due("the least", 1, () -> edge.sample(5, 0, -1024, -1024, 0));

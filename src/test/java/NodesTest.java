@@ -6,6 +6,7 @@ public final class NodesTest {
         leavesWithAllItHas(check);
         leavesServicesOfOthers(check);
         comesBackAsNew(check);
+        forgetsAllVariables(check);
         readsVariables(check);
         check.end();
     }
@@ -76,6 +77,24 @@ public final class NodesTest {
         bus.tick(1);
         check.due("its spins begin from topic 0 again", "", () -> Check.values(bus, 0, 0));
         check.due("and not behind the topic of before", "2", () -> Check.values(bus, 0, 3));
+    }
+
+    private static void forgetsAllVariables(Check check) {
+        RobotBus bus = Check.busWith(0);
+        bus.subscribe(0, 0, 1);
+        for (int variable = 0; variable < 4; variable++) {
+            int number = variable;
+            bus.act(0, 0, 0, variable, 0);
+            bus.publish(0, 0, variable + 5);
+            bus.tick(1);
+            check.due("variable " + variable, variable + 5, () -> bus.variable(0, number));
+        }
+        bus.leave(0);
+        bus.join(0);
+        for (int variable = 0; variable < 4; variable++) {
+            int number = variable;
+            check.due("variable " + variable + " forgotten", 0, () -> bus.variable(0, number));
+        }
     }
 
     private static void readsVariables(Check check) {

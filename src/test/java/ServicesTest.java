@@ -112,6 +112,8 @@ public final class ServicesTest {
         bus.offer(5, 1, 0, 2, 3);
         bus.offer(5, 2, 3, 1, 100);
         check.due("one step", 2 * 7 + 3 + 100, () -> bus.call(2, 7));
+        bus.offer(0, 1, 2, 1, 0);
+        check.due("of a quotient", 40 / 20 + 100, () -> bus.call(2, 40));
     }
 
     private static void refusesCalls(Check check) {
