@@ -1,9 +1,5 @@
-import java.lang.reflect.InvocationTargetException;
 import java.lang.reflect.Method;
-import java.lang.reflect.Modifier;
-import java.util.ArrayList;
 import java.util.Arrays;
-import java.util.Comparator;
 import java.util.List;
 import java.util.Random;
 
@@ -22,37 +18,23 @@ public final class RandomRunsTest {
     };
 
     private final Random random;
-    private final List<Method> calls;
+    private final List<Method> calls = Calls.all();
     private final RobotBus bus = new RobotBus();
     private final BusModel model = new BusModel();
     private final int oddOnesIn;
     private int sampleTime = 0;
 
-    private RandomRunsTest(int seed, List<Method> calls) {
+    private RandomRunsTest(int seed) {
         this.random = new Random(seed);
-        this.calls = calls;
         this.oddOnesIn = 10 + seed % 90;
     }
 
     public static void main(String[] args) throws ReflectiveOperationException {
         Check check = new Check();
-        List<Method> calls = callsOfTheFace();
         for (int seed = 0; seed < RUNS; seed++) {
-            new RandomRunsTest(seed, calls).run(check, "run " + seed);
+            new RandomRunsTest(seed).run(check, "run " + seed);
         }
         check.end();
-    }
-
-    private static List<Method> callsOfTheFace() {
-        List<Method> found = new ArrayList<>();
-        for (Method method : RobotBus.class.getDeclaredMethods()) {
-            if (Modifier.isPublic(method.getModifiers())) {
-                found.add(method);
-            }
-        }
-        // The order in which they are found is not promised, and the seeds are to mean the same always.
-        found.sort(Comparator.comparing(Method::getName));
-        return found;
     }
 
     private void run(Check check, String name) throws ReflectiveOperationException {
@@ -60,8 +42,8 @@ public final class RandomRunsTest {
             Method method = nextCall(i);
             Object[] arguments = arguments(method);
             Method same = BusModel.class.getDeclaredMethod(method.getName(), method.getParameterTypes());
-            String want = outcome(same, model, arguments);
-            String got = outcome(method, bus, arguments);
+            String want = Calls.outcome(same, model, arguments);
+            String got = Calls.outcome(method, bus, arguments);
             if (!want.equals(got)) {
                 String call = method.getName() + Arrays.toString(arguments);
                 check.tell(name + ", call " + i + ", " + call + " with " + model, want, got);
@@ -73,20 +55,16 @@ public final class RandomRunsTest {
     /** Runs differ in what they mostly do, and most begin with some nodes. */
     private Method nextCall(int i) {
         if (i < 4) {
-            return named("join");
+            return Calls.named("join");
         }
         Method method = calls.get(random.nextInt(calls.size()));
         boolean endsMuch = method.getName().equals("leave") || method.getName().equals("empty")
             || method.getName().equals("mount") || method.getName().equals("unsubscribe");
         if (endsMuch && random.nextInt(6) != 0) {
             String[] frequent = {"publish", "tick", "act", "subscribe", "sample", "queued", "variable"};
-            return named(frequent[random.nextInt(frequent.length)]);
+            return Calls.named(frequent[random.nextInt(frequent.length)]);
         }
         return method;
-    }
-
-    private Method named(String name) {
-        return calls.stream().filter(method -> method.getName().equals(name)).findFirst().orElseThrow();
     }
 
     private Object[] arguments(Method method) {
@@ -145,16 +123,6 @@ public final class RandomRunsTest {
                 return random.nextInt(7);
             default:
                 return random.nextInt(random.nextBoolean() ? 4 : 6);
-        }
-    }
-
-    private static String outcome(Method method, Object target, Object[] arguments) throws IllegalAccessException {
-        try {
-            Object answer = method.invoke(target, arguments);
-            // A zero is one with either sign: adding 0 makes it the same text.
-            return answer instanceof Double number ? String.valueOf(number + 0.0) : String.valueOf(answer);
-        } catch (InvocationTargetException e) {
-            return Check.thrown(e.getCause().getClass());
         }
     }
 }
