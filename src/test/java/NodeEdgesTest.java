@@ -152,6 +152,12 @@ public final class NodeEdgesTest {
             queued 0 1 0 0 ! MISSING
             call 3 5 ! MISSING
             """);
+        Script.test(check, "A node that comes again spins from 0 at first, not behind what it took from before", """
+            join 2; subscribe 2 4 1; publish 2 4 7; tick 1
+            leave 2; join 2
+            subscribe 2 {0..5} 1; act 2 {0..5} 0 0 0; publish 2 5 50; publish 2 0 10; tick 1
+            variable 2 0 = 10
+            """);
         Script.test(check, "all its numbers are free again for who comes", """
             join {0..5} = 1
             leave {0..5} = 0

@@ -304,6 +304,11 @@ public final class TopicEdgesTest {
             count 5 = 0
             count 1 = 0
             """);
+        Script.test(check, "unsubscribe: the action for the topic stays, and is done when it is subscribed again", """
+            join 0; subscribe 0 0 4; act 0 0 0 0 0; unsubscribe 0 0 = 0; subscribe 0 0 4; publish 0 0 7; tick 1
+            variable 0 0 = 7
+            act 0 0 0 0 0 = 0
+            """);
         Script.test(check, "unsubscribe: NoSuchElementException: no such node", """
             unsubscribe {-1,6,MIN,MAX} 0 ! MISSING
             unsubscribe {0..5} 0 ! MISSING
