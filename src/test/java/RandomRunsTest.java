@@ -1,7 +1,9 @@
 import java.lang.reflect.Method;
 import java.util.Arrays;
 import java.util.List;
+import java.util.Map;
 import java.util.Random;
+import java.util.TreeMap;
 
 /**
  * All promises: runs of 512 calls, drawn by fixed seeds, answer as the model does. What a call that throws may have
@@ -10,6 +12,17 @@ import java.util.Random;
 public final class RandomRunsTest {
     private static final int RUNS = 3000;
     private static final int CALLS = 512;
+    private static final int LEAST_ANSWERS = 2000;
+
+    // Drawn evenly, most calls would find no queue filled and no frame that leads to the root; a run keeps to a theme.
+    private static final String[][] THEMES = {
+        {"publish", "tick", "act", "subscribe", "sample", "queued", "variable"},
+        {"subscribe", "publish", "publish", "publish", "queued", "queued", "tick", "unsubscribe", "latch", "leave"},
+        {"act", "act", "subscribe", "publish", "publish", "tick", "variable", "offer", "call", "queued", "count"},
+        {"keep", "publish", "publish", "tick", "tick", "play", "count", "subscribe", "queued", "empty"},
+        {"sample", "sample", "sample", "sample", "sample", "locate", "locate", "locate", "lastY", "mount"},
+    };
+    private static final int FRAMES_THEME = 4;
     private static final double[] ODD_COORDINATES = {
         0.1, 1024.125, -1024.125, 1024, -1024, -0.0, Double.NaN, Double.NEGATIVE_INFINITY, Double.MIN_VALUE, 1e18,
     };
@@ -21,23 +34,36 @@ public final class RandomRunsTest {
     private final List<Method> calls = Calls.all();
     private final RobotBus bus = new RobotBus();
     private final BusModel model = new BusModel();
+    private final int theme;
     private final int oddOnesIn;
+    private final int mostTicks;
+    private final int width;
+    private final int stride;
     private int sampleTime = 0;
 
     private RandomRunsTest(int seed) {
         this.random = new Random(seed);
+        this.theme = seed % THEMES.length;
         this.oddOnesIn = 10 + seed % 90;
+        this.mostTicks = random.nextBoolean() ? 8 : 1;
+        this.width = theme == FRAMES_THEME ? 6 : 2 + random.nextInt(5);
+        this.stride = random.nextBoolean() ? 4 : 600;
     }
 
     public static void main(String[] args) throws ReflectiveOperationException {
         Check check = new Check();
+        Map<String, Integer> answers = new TreeMap<>();
         for (int seed = 0; seed < RUNS; seed++) {
-            new RandomRunsTest(seed).run(check, "run " + seed);
+            new RandomRunsTest(seed).run(check, "run " + seed, answers);
+        }
+        for (Method method : Calls.all()) {
+            int many = answers.getOrDefault(method.getName(), 0);
+            check.tell(method.getName() + " answers often enough", "true", String.valueOf(many >= LEAST_ANSWERS));
         }
         check.end();
     }
 
-    private void run(Check check, String name) throws ReflectiveOperationException {
+    private void run(Check check, String name, Map<String, Integer> answers) throws ReflectiveOperationException {
         for (int i = 0; i < CALLS; i++) {
             Method method = nextCall(i);
             Object[] arguments = arguments(method);
@@ -49,22 +75,26 @@ public final class RandomRunsTest {
                 check.tell(name + ", call " + i + ", " + call + " with " + model, want, got);
                 return;
             }
+            // The root asked for a point of its own tells nothing of frames.
+            if (!got.startsWith("throws") && !(method.getName().equals("locate") && arguments[0].equals(0))) {
+                answers.merge(method.getName(), 1, Integer::sum);
+            }
         }
     }
 
-    /** Runs differ in what they mostly do, and most begin with some nodes. */
     private Method nextCall(int i) {
-        if (i < 4) {
+        if (i < 8) {
             return Calls.named("join");
         }
-        Method method = calls.get(random.nextInt(calls.size()));
-        boolean endsMuch = method.getName().equals("leave") || method.getName().equals("empty")
-            || method.getName().equals("mount") || method.getName().equals("unsubscribe");
-        if (endsMuch && random.nextInt(6) != 0) {
-            String[] frequent = {"publish", "tick", "act", "subscribe", "sample", "queued", "variable"};
-            return Calls.named(frequent[random.nextInt(frequent.length)]);
+        if (i < 20 && theme == FRAMES_THEME) {
+            return Calls.named("mount");
         }
-        return method;
+        boolean any = random.nextInt(4) == 0;
+        Method method = any ? calls.get(random.nextInt(calls.size()))
+            : Calls.named(THEMES[theme][random.nextInt(THEMES[theme].length)]);
+        // What ends much takes other calls' ground away, so few of these are made.
+        boolean endsMuch = List.of("leave", "empty", "mount", "unsubscribe").contains(method.getName());
+        return endsMuch && random.nextInt(4) != 0 ? Calls.named(THEMES[theme][0]) : method;
     }
 
     private Object[] arguments(Method method) {
@@ -99,15 +129,17 @@ public final class RandomRunsTest {
             case "call1":
                 return random.nextInt(8) == 0 ? random.nextInt() : random.nextInt(41) - 20;
             case "sample1":
-                sampleTime += random.nextInt(4);
+                sampleTime += random.nextInt(stride);
                 return sampleTime;
             case "locate1":
-                return Math.max(0, sampleTime - random.nextInt(40));
+                return sampleTime - random.nextInt(10 * stride);
             case "act2":
                 return random.nextInt(6) - (random.nextInt(10) == 0 ? 1 : 0);
             case "act4":
                 return random.nextBoolean() ? random.nextInt(4) : random.nextInt(201) - 100;
+            case "offer2":
             case "offer3":
+            case "sample4":
                 return random.nextInt(4);
             case "offer4":
                 return random.nextInt(2001) - 1000;
@@ -115,14 +147,15 @@ public final class RandomRunsTest {
             case "play0":
                 return 1 + random.nextInt(4);
             case "tick0":
-                return 1 + random.nextInt(8);
+                return 1 + random.nextInt(mostTicks);
             case "queued2":
+                return random.nextInt(1 + random.nextInt(4));
             case "queued3":
                 return random.nextInt(3);
             case "count0":
                 return random.nextInt(7);
             default:
-                return random.nextInt(random.nextBoolean() ? 4 : 6);
+                return random.nextInt(random.nextInt(8) == 0 ? 6 : width);
         }
     }
 }
